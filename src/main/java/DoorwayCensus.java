@@ -23,6 +23,7 @@ public final class DoorwayCensus {
     private static final int RENT_DAYS = 30;
     private static final int BEHIND_LOST = 3;
     private static final int RETURN_DAYS = 360;
+    private static final int ABOVE_ALL_SCORES = 1000000;
 
     private final Sighting[] sightings = new Sighting[MOST_SIGHTINGS];
     private int sightingCount = 0;
@@ -430,7 +431,7 @@ public final class DoorwayCensus {
     public int giveBeds() {
         int given = 0;
         int person = NONE;
-        int score = Integer.MAX_VALUE;
+        int score = ABOVE_ALL_SCORES;
         for (int turn = 0; turn < sightingCount; turn++) {
             person = nextInQueue(score, person);
             if (person == NONE) {
@@ -658,7 +659,6 @@ public final class DoorwayCensus {
         sightings[sighting].home = home;
         homes[home].fund = fund;
         homes[home].firstDay = day;
-        homes[home].behind = 0;
         return day + RENT_DAYS;
     }
 
@@ -1074,7 +1074,7 @@ public final class DoorwayCensus {
             return NONE;
         }
         int person = NONE;
-        int score = Integer.MAX_VALUE;
+        int score = ABOVE_ALL_SCORES;
         for (int turn = 0; turn < sightingCount; turn++) {
             person = nextInQueue(score, person);
             if (person == NONE) {

@@ -196,6 +196,12 @@ public final class PromisesTest {
     due("like years", 3, x.merge(1, 3));
     due("over others", 0, x.getPerson(3));
     due("merges", 2, x.countPersons());
+    DoorwayCensus z = new DoorwayCensus();
+    for (int s = 0; s < 4; s++) z.sight(0, 1, s == 3 ? 0 : 1960 + s, 0);
+    fails("unlike years, whatever others have", UNSUPPORTED, () -> z.merge(0, 1));
+    z.merge(3, 2);
+    fails("unlike years told by others of the person", UNSUPPORTED, () -> z.merge(1, 3));
+    due("nothing is changed", 3, z.countPersons());
     DoorwayCensus y = town(24);
     for (int s = 1; s <= 20; s++) due("merge", s + 1, y.merge(s, s - 1));
     fails("a 21st merge", STATE, () -> y.merge(0, 21));
@@ -1024,6 +1030,10 @@ public final class PromisesTest {
     x.passNights(30);
     fails("lost on the day 360", ELEMENT, () -> x.homeOf(0));
     due("no return", 1, x.countReturns());
+    x.addHome(2000, 0, 7); x.addFund(0, 4);
+    due("house", 390, x.house(2, 0, 2));
+    x.passNights(60); x.passNights(30);
+    due("days from the first one there", 2, x.countReturns());
   }
 
   private static void payBehind() {
