@@ -75,11 +75,18 @@ abstract class Checks {
   static void refuses(Class<?> want, Build town, Call call) {
     Object got = answer(town.make(), call);
     if (got != want) tell("answered " + got + ", due is " + want);
-    same(town, () -> {
-      DoorwayCensus touched = town.make();
-      answer(touched, call);
-      return touched;
-    });
+    Build touched = () -> { DoorwayCensus x = town.make(); answer(x, call); return x; };
+    same(town, touched);
+    // Where nobody is there yet, some of what could have been changed shows on those who come alone.
+    if (Probe.size(town.make()).sightings() == 0) same(() -> peopled(town.make()), () -> peopled(touched.make()));
+  }
+
+  private static DoorwayCensus peopled(DoorwayCensus x) {
+    for (int s = 0; s < 8; s++) {
+      x.sight(s % 4, s, s == 0 ? 0 : 1950, s);
+      x.setHarm(s, 1, 2);
+    }
+    return x;
   }
 
   /** Two towns show the same, also by later calls. */

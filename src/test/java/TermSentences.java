@@ -809,15 +809,19 @@ final class TermSentences extends Checks {
       };
       refuses(STATE, Towns::lively, all);
     });
-    terms("A method that throws an exception changes nothing.", "what is full, on the last day", () -> {
-      Build last = () -> { DoorwayCensus x = Towns.full(); Towns.go(x, 2000); return x; };
-      refuses(STATE, last, x -> x.sight(0, 0, 0, 0));
-      refuses(STATE, last, x -> x.merge(21, 22));
-      refuses(STATE, last, x -> x.addShelter(1, 0, 0));
-      refuses(STATE, last, x -> x.addHome(1, 0, 0));
-      refuses(STATE, last, x -> x.addFund(1, 0));
-      refuses(STATE, last, x -> x.passNights(1));
-    });
+    terms("A method that throws an exception changes nothing.", "what is full, with a home that is paid for, on the last day",
+        () -> {
+          Build paid = () -> { DoorwayCensus x = Towns.full(); x.house(0, 23, 3); x.passNights(1); return x; };
+          Build last = () -> { DoorwayCensus x = Towns.full(); Towns.go(x, 2000); return x; };
+          for (Build full : new Build[] {paid, last}) {
+            refuses(STATE, full, x -> x.sight(0, 0, 0, 0));
+            refuses(STATE, full, x -> x.merge(21, 22));
+            refuses(STATE, full, x -> x.addShelter(1, 0, 0));
+            refuses(STATE, full, x -> x.addHome(1, 0, 0));
+            refuses(STATE, full, x -> x.addFund(1, 0));
+          }
+          refuses(STATE, last, x -> x.passNights(1));
+        });
     terms("If several exceptions apply, the one that is listed first is thrown.", "each two that can", () -> {
       Build last = () -> { DoorwayCensus x = Towns.full(); Towns.go(x, 2000); x.house(0, 0, 0); x.setOffice(0, 0); return x; };
       Object[][] due = {
