@@ -84,7 +84,7 @@ abstract class Checks {
   private static DoorwayCensus peopled(DoorwayCensus x) {
     for (int s = 0; s < 8; s++) {
       x.sight(s % 4, s, s == 0 ? 0 : 1950, s);
-      x.setHarm(s, 1, 2);
+      if (s % 7 != 0) x.setHarm(s, 1, 2);
     }
     return x;
   }

@@ -57,7 +57,7 @@ final class Towns {
   /** A town that has some of all, but nobody. */
   static DoorwayCensus deserted() {
     DoorwayCensus x = new DoorwayCensus();
-    x.addShelter(2, 5, 7); x.addShelter(3, 2, -7);
+    x.addShelter(2, 5, 7); x.addShelter(3, 2, -7); x.addShelter(1, 7, 40);
     x.addHome(60, 5, 3); x.addHome(70, 2, 4); x.addFund(50, 3); x.addFund(70, 1);
     x.setCold(-2); x.setWeights(3, 2);
     x.setPaper(1, 1, 1); x.setPaper(2, 2, 2); x.setPaper(3, 0, 4); x.setOffice(1, 85);
