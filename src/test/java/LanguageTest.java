@@ -53,6 +53,10 @@ public final class LanguageTest {
       String head = m.group().substring(0, m.group().indexOf('{'));
       hold(head.split(",").length <= MOST_PARAMETERS + 2, "too many parameters: " + head);
       hold(m.group(2).split("\n").length <= MOST_LINES, "too long: " + head);
+      // All calls of a run share one room: what is made, is made in constructors.
+      boolean isConstructor = head.trim().matches("(public )?[A-Z]\\w*\\(.*");
+      boolean makes = m.group(2).replace("throw new ", "").contains("new ");
+      hold(isConstructor ? !m.group(2).contains("throw ") : !makes, "makes an object, or throws in a constructor: " + head);
     }
     hold(methods > 47, "the methods are not found: " + methods);
   }
